@@ -1,0 +1,249 @@
+/** All promises: long runs of calls, whose answers have to be those of Model. */
+public final class ModelTest {
+    private static final int RUNS = 300;
+    private static final int CALLS = 512;
+    private static final String[] PIECES = {"l0+", "l1+", "l0+9000", "x001:", "x002:50", "x010:",
+        "x120:7", "h00:", "h11:2", "h02:", ";", ";", ";", "5", "0", "99", "l", "x", "h", "4", "+",
+        ":", "~"};
+
+    private final Check check;
+    /** Always the same numbers: a test of the same class gives the same answers. */
+    private long seed;
+    private TravelPurses x;
+    private Model model;
+    /** Bolder runs have more wrong arguments; calmer ones go further. */
+    private int boldness;
+
+    private ModelTest(Check check, long seed) {
+        this.check = check;
+        this.seed = seed;
+        boldness = (int) (seed % 3) * 6;
+    }
+
+    public static void main(String[] args) {
+        Check check = new Check("ModelTest");
+        for (int run = 1; run <= RUNS; run++) {
+            new ModelTest(check, run).oneRun();
+        }
+        check.end();
+    }
+
+    private int below(int bound) {
+        seed = seed * 6364136223846793005L + 1442695040888963407L;
+        return (int) ((seed >>> 33) % bound);
+    }
+
+    private int index(int bound) {
+        return below(100) < boldness ? below(bound + 4) - 2 : below(bound);
+    }
+
+    private int amount(int most) {
+        int kind = below(100);
+        if (kind < boldness) {
+            int[] odd = {0, -1, most, most + 1, Integer.MAX_VALUE, Integer.MIN_VALUE};
+            return odd[below(odd.length)];
+        }
+        int[] bounds = {10, 200, 3000, most, most};
+        return 1 + below(bounds[kind % bounds.length]);
+    }
+
+    /** About as much as there is: so that many calls stand just at their bound. */
+    private int amountNear(long bound) {
+        return (int) Math.min(99999, Math.max(0, bound + below(3) - 1 - below(3) / 2));
+    }
+
+    private void oneRun() {
+        x = new TravelPurses();
+        model = new Model();
+        for (int call = 0; call < CALLS; call++) {
+            if (call % 16 == 15) {
+                same("digest()", () -> x.digest(), () -> model.digest());
+            } else if (below(3) > 0) {
+                change();
+            } else {
+                query();
+            }
+        }
+    }
+
+    private void same(String what, Check.Call got, Check.Call due) {
+        check.isText(what, outcome(got), outcome(due));
+    }
+
+    private static String outcome(Check.Call call) {
+        try {
+            return Long.toString(call.answer());
+        } catch (RuntimeException thrown) {
+            return thrown.getClass().getSimpleName();
+        }
+    }
+
+    private void change() {
+        switch (below(20)) {
+            case 0, 1, 2 -> load();
+            case 3 -> {
+                int currency = 1 + index(3);
+                int rate = below(10) < 2 ? 99 + below(2) * 1902 : 100 + below(1901);
+                same("quote", () -> x.quote(currency, rate), () -> model.quote(currency, rate));
+            }
+            case 4 -> {
+                int wallet = index(4);
+                int currency = 1 + index(3);
+                same("lock", () -> x.lock(wallet, currency), () -> model.lock(wallet, currency));
+            }
+            case 5, 6, 7 -> exchange();
+            case 8, 9, 10 -> hold();
+            case 11 -> pay();
+            case 12 -> {
+                int hold = index(4);
+                same("letGo", () -> x.letGo(hold), () -> model.letGo(hold));
+            }
+            case 13 -> {
+                int payment = index(12);
+                same("dispute", () -> x.dispute(payment), () -> model.dispute(payment));
+            }
+            case 14 -> {
+                int payment = index(12);
+                boolean isWon = below(4) == 0;
+                same("decide", () -> x.decide(payment, isWon), () -> model.decide(payment, isWon));
+            }
+            case 15 -> rare();
+            case 16 -> {
+                int setting = index(4);
+                int value = amount(below(2) == 0 ? 60 : 20) - below(2);
+                same("set", () -> x.set(setting, value), () -> model.set(setting, value));
+            }
+            case 17, 18 -> text();
+            default -> {
+                if (below(3) == 0) {
+                    same("undo", () -> x.undo(), () -> model.undo());
+                }
+            }
+        }
+    }
+
+    private void load() {
+        int wallet = index(4);
+        int amount = amount(99999);
+        same("load", () -> x.load(wallet, amount), () -> model.load(wallet, amount));
+    }
+
+    private void exchange() {
+        int wallet = index(4);
+        int from = index(4);
+        int to = below(5) == 0 ? index(4) : from == 0 ? 1 + below(3) : 0;
+        int amount = below(3) == 0 && wallet >= 0 && wallet < 4 && from >= 0 && from < 4
+                ? amountNear(model.purse(wallet, from, 2)) : amount(99999);
+        same("exchange", () -> x.exchange(wallet, from, to, amount),
+                () -> model.exchange(wallet, from, to, amount));
+    }
+
+    private void hold() {
+        int wallet = index(4);
+        int currency = index(4);
+        int amount = below(3) == 0 && wallet >= 0 && wallet < 4 && currency >= 0 && currency < 4
+                ? amountNear(model.room(wallet, currency)) : amount(below(4) == 0 ? 99999 : 500);
+        same("hold", () -> x.hold(wallet, currency, amount),
+                () -> model.hold(wallet, currency, amount));
+    }
+
+    private void pay() {
+        int hold = index(4);
+        int amount = below(2) == 0 && hold >= 0 && hold < model.count(1)
+                ? amountNear(model.held(hold, 3)) : amount(100);
+        same("pay", () -> x.pay(hold, amount), () -> model.pay(hold, amount));
+    }
+
+    private void rare() {
+        if (below(3) == 0) {
+            int wallet = index(4);
+            same("close", () -> x.close(wallet), () -> model.close(wallet));
+            return;
+        }
+        int days = below(3) == 0 ? amount(60) : 1 + below(4);
+        same("pass", () -> x.pass(days), () -> model.pass(days));
+    }
+
+    private void text() {
+        switch (below(8)) {
+            case 0 -> {
+                int code = 31 + below(98);
+                same("append", () -> x.append(code), () -> model.append(code));
+            }
+            case 1 -> {
+                if (below(4) == 0) {
+                    same("clearBuffer", () -> x.clearBuffer(), () -> model.clearBuffer());
+                }
+            }
+            case 2, 3 -> run();
+            default -> {
+                String piece = PIECES[below(PIECES.length)];
+                for (int i = 0; i < piece.length(); i++) {
+                    int code = piece.charAt(i);
+                    same("append", () -> x.append(code), () -> model.append(code));
+                }
+            }
+        }
+    }
+
+    /** Sometimes on a row of one's own, since pieces seldom make a complete one. */
+    private void run() {
+        if (below(3) > 0) {
+            same("clearBuffer", () -> x.clearBuffer(), () -> model.clearBuffer());
+            String row = row();
+            for (int i = 0; i < row.length(); i++) {
+                x.append(row.charAt(i));
+                model.append(row.charAt(i));
+            }
+        }
+        same("firstError", () -> x.firstError(), () -> model.firstError());
+        same("run", () -> x.run(), () -> model.run());
+    }
+
+    private String row() {
+        StringBuilder text = new StringBuilder();
+        int orders = 1 + below(5);
+        for (int i = 0; i < orders; i++) {
+            text.append(i > 0 ? ";" : "");
+            int amount = below(2) == 0 ? 1 + below(100) : 1 + below(99999);
+            switch (below(3)) {
+                case 0 -> text.append('l').append(below(4)).append('+');
+                case 1 -> text.append('x').append(below(4)).append(below(3)).append(below(3))
+                        .append(':');
+                default -> text.append('h').append(below(4)).append(below(4)).append(':');
+            }
+            text.append(amount);
+        }
+        return text.toString();
+    }
+
+    private void query() {
+        int wallet = index(4);
+        int currency = index(4);
+        int other = index(4);
+        int amount = amount(99999);
+        int small = amount(9999);
+        int what = below(20) == 0 ? below(20) - 4 : below(9);
+        switch (below(12)) {
+            case 0, 1 -> same("purse", () -> x.purse(wallet, currency, what),
+                    () -> model.purse(wallet, currency, what));
+            case 2 -> same("held", () -> x.held(wallet, what), () -> model.held(wallet, what));
+            case 3 -> same("payment", () -> x.payment(wallet, what),
+                    () -> model.payment(wallet, what));
+            case 4 -> same("count", () -> x.count(what + other), () -> model.count(what + other));
+            case 5 -> same("setting", () -> x.setting(other), () -> model.setting(other));
+            case 6 -> same("ifExchanged", () -> x.ifExchanged(wallet, currency, other, amount),
+                    () -> model.ifExchanged(wallet, currency, other, amount));
+            case 7 -> same("needed", () -> x.needed(wallet, currency, small),
+                    () -> model.needed(wallet, currency, small));
+            case 8 -> same("room", () -> x.room(wallet, currency),
+                    () -> model.room(wallet, currency));
+            case 9 -> same("whyNot", () -> x.whyNot(what % 4, wallet, currency, other, amount),
+                    () -> model.whyNot(what % 4, wallet, currency, other, amount));
+            case 10 -> same("ifClosed", () -> x.ifClosed(wallet), () -> model.ifClosed(wallet));
+            default -> same("heldShare",
+                    () -> Double.doubleToLongBits(x.heldShare(wallet, currency)),
+                    () -> Double.doubleToLongBits(model.heldShare(wallet, currency)));
+        }
+    }
+}
