@@ -49,6 +49,13 @@ public final class DigestTest {
             same("a share of " + amount, x);
         }
         CHECK.isDouble("all is held", x.heldShare(0, 0), 1.0);
+        x.load(0, 99999);
+        same("a half", x);
+        x.load(1, 64);
+        x.hold(1, 0, 1);
+        same("a 64th", x);
+        x.hold(1, 0, 2);
+        same("three 64ths", x);
     }
 
     private long of(TravelPurses x, int... codes) {

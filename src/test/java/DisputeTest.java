@@ -49,6 +49,14 @@ public final class DisputeTest {
         CHECK.is("dispute on the last day", x.dispute(0), 5100);
         x.pass(60);
         CHECK.is("decided at any time", x.decide(0, true), 0);
+        x.hold(1, 0, 10);
+        x.pay(0, 10);
+        x.pass(30);
+        CHECK.is("a later payment, 30 days on", x.payment(1, 5), 1);
+        CHECK.is("it is disputed", x.dispute(1), 5100);
+        x.undo();
+        x.pass(1);
+        CHECK.is("31 days on", x.payment(1, 5), 0);
     }
 
     private static void disputeRefused() {

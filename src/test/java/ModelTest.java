@@ -1,7 +1,13 @@
 /** All promises: long runs of calls, whose answers have to be those of Model. */
 public final class ModelTest {
-    private static final int RUNS = 300;
+    private static final int RUNS = 400;
     private static final int CALLS = 512;
+    /**
+     * Which calls a run makes, and how often: all of them; payments and debts; days; much money;
+     * many holds.
+     */
+    private static final String[] PROFILES = {"lllqkxxxhhhpgdwcnsttu", "llhhhppppdddwwwxxxxxnu",
+        "lhnnnnnnnnnnkqpd", "llllllllllllxxqu", "lllhhhhhhhhhhhhgptu"};
     private static final String[] PIECES = {"l0+", "l1+", "l0+9000", "x001:", "x002:50", "x010:",
         "x120:7", "h00:", "h11:2", "h02:", ";", ";", ";", "5", "0", "99", "l", "x", "h", "4", "+",
         ":", "~"};
@@ -12,12 +18,19 @@ public final class ModelTest {
     private TravelPurses x;
     private Model model;
     /** Bolder runs have more wrong arguments; calmer ones go further. */
-    private int boldness;
+    private final int boldness;
+    private final String profile;
+    private final int longestPass;
+    /** Few wallets bring more money, holds and debts together. */
+    private final int wallets;
 
-    private ModelTest(Check check, long seed) {
+    private ModelTest(Check check, int run) {
         this.check = check;
-        this.seed = seed;
-        boldness = (int) (seed % 3) * 6;
+        seed = run;
+        boldness = run % 3 * 6;
+        profile = PROFILES[run % PROFILES.length];
+        longestPass = run % PROFILES.length == 2 ? 40 : 4;
+        wallets = run % 2 == 0 ? 4 : 1;
     }
 
     public static void main(String[] args) {
@@ -79,57 +92,76 @@ public final class ModelTest {
     }
 
     private void change() {
-        switch (below(20)) {
-            case 0, 1, 2 -> load();
-            case 3 -> {
-                int currency = 1 + index(3);
-                int rate = below(10) < 2 ? 99 + below(2) * 1902 : 100 + below(1901);
-                same("quote", () -> x.quote(currency, rate), () -> model.quote(currency, rate));
-            }
-            case 4 -> {
-                int wallet = index(4);
-                int currency = 1 + index(3);
-                same("lock", () -> x.lock(wallet, currency), () -> model.lock(wallet, currency));
-            }
-            case 5, 6, 7 -> exchange();
-            case 8, 9, 10 -> hold();
-            case 11 -> pay();
-            case 12 -> {
-                int hold = index(4);
-                same("letGo", () -> x.letGo(hold), () -> model.letGo(hold));
-            }
-            case 13 -> {
-                int payment = index(12);
-                same("dispute", () -> x.dispute(payment), () -> model.dispute(payment));
-            }
-            case 14 -> {
-                int payment = index(12);
-                boolean isWon = below(4) == 0;
-                same("decide", () -> x.decide(payment, isWon), () -> model.decide(payment, isWon));
-            }
-            case 15 -> rare();
-            case 16 -> {
-                int setting = index(4);
-                int value = amount(below(2) == 0 ? 60 : 20) - below(2);
-                same("set", () -> x.set(setting, value), () -> model.set(setting, value));
-            }
-            case 17, 18 -> text();
-            default -> {
-                if (below(3) == 0) {
-                    same("undo", () -> x.undo(), () -> model.undo());
-                }
-            }
+        switch (profile.charAt(below(profile.length()))) {
+            case 'l' -> load();
+            case 'q' -> quote();
+            case 'k' -> lock();
+            case 'x' -> exchange();
+            case 'h' -> hold();
+            case 'p' -> pay();
+            case 'g' -> letGo();
+            case 'd' -> dispute();
+            case 'w' -> decide();
+            case 'c' -> close();
+            case 'n' -> pass();
+            case 's' -> set();
+            case 't' -> text();
+            default -> same("undo", () -> x.undo(), () -> model.undo());
         }
     }
 
+    private void quote() {
+        int currency = 1 + index(3);
+        int rate = below(10) < 2 ? 99 + below(2) * 1902 : 100 + below(1901);
+        same("quote", () -> x.quote(currency, rate), () -> model.quote(currency, rate));
+    }
+
+    private void lock() {
+        int wallet = index(wallets);
+        int currency = 1 + index(3);
+        same("lock", () -> x.lock(wallet, currency), () -> model.lock(wallet, currency));
+    }
+
+    private void letGo() {
+        int hold = index((int) model.count(1) + 1);
+        same("letGo", () -> x.letGo(hold), () -> model.letGo(hold));
+    }
+
+    private void dispute() {
+        int payment = index((int) model.count(2) + 1);
+        same("dispute", () -> x.dispute(payment), () -> model.dispute(payment));
+    }
+
+    private void decide() {
+        int payment = index((int) model.count(2) + 1);
+        boolean isWon = below(4) == 0;
+        same("decide", () -> x.decide(payment, isWon), () -> model.decide(payment, isWon));
+    }
+
+    private void close() {
+        int wallet = index(wallets);
+        same("close", () -> x.close(wallet), () -> model.close(wallet));
+    }
+
+    private void pass() {
+        int days = below(4) == 0 ? amount(60) : 1 + below(longestPass);
+        same("pass", () -> x.pass(days), () -> model.pass(days));
+    }
+
+    private void set() {
+        int setting = index(4);
+        int value = amount(below(2) == 0 ? 60 : 20) - below(2);
+        same("set", () -> x.set(setting, value), () -> model.set(setting, value));
+    }
+
     private void load() {
-        int wallet = index(4);
+        int wallet = index(wallets);
         int amount = amount(99999);
         same("load", () -> x.load(wallet, amount), () -> model.load(wallet, amount));
     }
 
     private void exchange() {
-        int wallet = index(4);
+        int wallet = index(wallets);
         int from = index(4);
         int to = below(5) == 0 ? index(4) : from == 0 ? 1 + below(3) : 0;
         int amount = below(3) == 0 && wallet >= 0 && wallet < 4 && from >= 0 && from < 4
@@ -139,7 +171,7 @@ public final class ModelTest {
     }
 
     private void hold() {
-        int wallet = index(4);
+        int wallet = index(wallets);
         int currency = index(4);
         int amount = below(3) == 0 && wallet >= 0 && wallet < 4 && currency >= 0 && currency < 4
                 ? amountNear(model.room(wallet, currency)) : amount(below(4) == 0 ? 99999 : 500);
@@ -148,20 +180,10 @@ public final class ModelTest {
     }
 
     private void pay() {
-        int hold = index(4);
+        int hold = index((int) model.count(1) + 1);
         int amount = below(2) == 0 && hold >= 0 && hold < model.count(1)
                 ? amountNear(model.held(hold, 3)) : amount(100);
         same("pay", () -> x.pay(hold, amount), () -> model.pay(hold, amount));
-    }
-
-    private void rare() {
-        if (below(3) == 0) {
-            int wallet = index(4);
-            same("close", () -> x.close(wallet), () -> model.close(wallet));
-            return;
-        }
-        int days = below(3) == 0 ? amount(60) : 1 + below(4);
-        same("pass", () -> x.pass(days), () -> model.pass(days));
     }
 
     private void text() {
@@ -218,7 +240,7 @@ public final class ModelTest {
     }
 
     private void query() {
-        int wallet = index(4);
+        int wallet = index(wallets);
         int currency = index(4);
         int other = index(4);
         int amount = amount(99999);
@@ -227,9 +249,15 @@ public final class ModelTest {
         switch (below(12)) {
             case 0, 1 -> same("purse", () -> x.purse(wallet, currency, what),
                     () -> model.purse(wallet, currency, what));
-            case 2 -> same("held", () -> x.held(wallet, what), () -> model.held(wallet, what));
-            case 3 -> same("payment", () -> x.payment(wallet, what),
-                    () -> model.payment(wallet, what));
+            case 2 -> {
+                int hold = index((int) model.count(1) + 1);
+                same("held", () -> x.held(hold, what), () -> model.held(hold, what));
+            }
+            case 3 -> {
+                int payment = index((int) model.count(2) + 1);
+                same("payment", () -> x.payment(payment, what),
+                        () -> model.payment(payment, what));
+            }
             case 4 -> same("count", () -> x.count(what + other), () -> model.count(what + other));
             case 5 -> same("setting", () -> x.setting(other), () -> model.setting(other));
             case 6 -> same("ifExchanged", () -> x.ifExchanged(wallet, currency, other, amount),

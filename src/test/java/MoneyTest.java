@@ -15,6 +15,7 @@ public final class MoneyTest {
         exchangeRefused();
         close();
         closeRefused();
+        closeOfLeastMoney();
         closeWithMuchMoney();
         CHECK.end();
     }
@@ -270,6 +271,26 @@ public final class MoneyTest {
         x.decide(1, true);
         CHECK.is("nothing against it", x.whyNot(2, 0, 0, 0, 1), 0);
         CHECK.is("close", x.close(0), 100);
+    }
+
+    private static void closeOfLeastMoney() {
+        TravelPurses x = new TravelPurses();
+        x.load(0, 3);
+        x.exchange(0, 0, 2, 2);
+        CHECK.is("one of the currency 2", x.purse(0, 2, 0), 1);
+        CHECK.is("close", x.close(0), 2);
+        CHECK.is("a balance of 1 is exchanged", x.count(6), 2);
+        CHECK.is("it is gone", x.purse(0, 2, 0), 0);
+        x.set(2, 0);
+        x.load(0, 1);
+        x.hold(0, 0, 1);
+        x.pay(0, 1);
+        x.dispute(0);
+        x.exchange(0, 0, 1, 1);
+        x.decide(0, false);
+        CHECK.is("a debt of 1", x.purse(0, 0, 3), 1);
+        CHECK.fails("close with it", Check.REFUSED, x, () -> x.close(0));
+        CHECK.is("its reason", x.whyNot(2, 0, 0, 0, 1), 6);
     }
 
     /** More than 99999 in a purse: what it gives, times the spread, is above the ints. */

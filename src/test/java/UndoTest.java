@@ -62,7 +62,7 @@ public final class UndoTest {
     }
 
     /**
-     * All there is: two holds, a lock, debt, and payments 0 (plain), 1 and 2 (disputed); three
+     * All there is: three holds, a lock, debt, and payments 0 (plain), 1 and 2 (disputed); three
      * states are saved, of calls that changed nothing.
      */
     private static TravelPurses rich() {
@@ -84,8 +84,11 @@ public final class UndoTest {
         x.exchange(1, 3, 0, 190);
         x.decide(3, false);
         x.lock(0, 2);
+        x.quote(2, 1234);
         x.hold(0, 0, 100);
         x.hold(0, 1, 200);
+        x.pass(1);
+        x.hold(1, 0, 30);
         for (int i = 0; i < 6; i++) {
             x.set(0, 7);
         }
@@ -113,19 +116,21 @@ public final class UndoTest {
     private static void undoOfEach() {
         TravelPurses x = rich();
         CHECK.is("there is debt", x.purse(1, 3, 3) > 0 ? 1 : 0, 1);
-        CHECK.is("two holds", x.count(1), 2);
+        CHECK.is("three holds", x.count(1), 3);
         CHECK.is("two disputes", x.count(3), 2);
         undone("load", y -> y.load(0, 5));
         undone("quote", y -> y.quote(1, 500));
         undone("quote of the same rate", y -> y.quote(1, 1000));
         undone("lock", y -> y.lock(0, 1));
         undone("lock in a lock's place", y -> y.lock(0, 2));
-        undone("exchange", y -> y.exchange(0, 1, 0, 10));
+        undone("exchange from home", y -> y.exchange(0, 0, 1, 500));
+        undone("exchange to home", y -> y.exchange(0, 1, 0, 10));
         undone("exchange that pays debt", y -> y.exchange(1, 0, 3, 10));
         undone("hold", y -> y.hold(0, 1, 10));
         undone("pay", y -> y.pay(1, 10));
         undone("pay out of the first one", y -> y.pay(0, 10));
         undone("letGo", y -> y.letGo(0));
+        undone("letGo of a later one", y -> y.letGo(1));
         undone("dispute", y -> y.dispute(0));
         undone("decide won", y -> y.decide(1, true));
         undone("decide lost", y -> y.decide(2, false));
