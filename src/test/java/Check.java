@@ -4,16 +4,48 @@ final class Check {
         long answer();
     }
 
+    interface CallWith {
+        long answer(int value);
+    }
+
     static final Class<IndexOutOfBoundsException> NO_SUCH = IndexOutOfBoundsException.class;
     static final Class<IllegalArgumentException> WRONG = IllegalArgumentException.class;
     static final Class<IllegalStateException> REFUSED = IllegalStateException.class;
 
+    private static final long LONGEST_TEST = 300_000;
+
     private final String test;
+    private String about = "";
     private int made;
     private int failed;
 
     Check(String test) {
         this.test = test;
+        endIfItHangs();
+    }
+
+    /** A call that never ends has to fail its test, and not to keep it for ever. */
+    private static void endIfItHangs() {
+        Thread guard = new Thread(() -> {
+            try {
+                Thread.sleep(LONGEST_TEST);
+            } catch (InterruptedException none) {
+                return;
+            }
+            System.out.println("FAILED: not at its end after " + LONGEST_TEST / 1000 + " s");
+            Runtime.getRuntime().halt(1);
+        });
+        guard.setDaemon(true);
+        guard.start();
+    }
+
+    /** What the checks from here on are about; it is told ahead of each that fails. */
+    void about(String newAbout) {
+        about = newAbout.isEmpty() ? "" : newAbout + ": ";
+    }
+
+    int made() {
+        return made;
     }
 
     void is(String what, long got, long due) {
@@ -53,10 +85,18 @@ final class Check {
         is("digest after refused " + what, x.digest(), before);
     }
 
+    /** The call has to fail so with each of these values. */
+    void failsWith(Class<? extends RuntimeException> due, TravelPurses x, CallWith call,
+            int... values) {
+        for (int value : values) {
+            fails("call with " + value, due, x, () -> call.answer(value));
+        }
+    }
+
     void fail(String what) {
         failed++;
         if (failed <= 50) {
-            System.out.println(test + ": " + what);
+            System.out.println(test + ": " + about + what);
         }
     }
 

@@ -1,8 +1,8 @@
-/** Promise 30: the digest, summed up here once more from the answers of the other calls. */
+import java.util.Arrays;
+
+/** Promise 30: the digest, step by step, and with many shares. */
 public final class DigestTest {
     private static final Check CHECK = new Check("DigestTest");
-
-    private long hash;
 
     public static void main(String[] args) {
         same("a new object", new TravelPurses());
@@ -12,92 +12,70 @@ public final class DigestTest {
     }
 
     private static void same(String what, TravelPurses x, int... codes) {
-        CHECK.is("digest of " + what, x.digest(), new DigestTest().of(x, codes));
+        CHECK.is("digest of " + what, x.digest(), DigestSum.of(x, codes));
+    }
+
+    /**
+     * A sum of the digest takes some 230 of the 512 calls that are promised of an object: so each
+     * state is made anew, by its first steps.
+     */
+    private static TravelPurses after(int steps) {
+        TravelPurses x = new TravelPurses();
+        for (int step = 1; step <= steps; step++) {
+            switch (step) {
+                case 1 -> x.load(1, 5000);
+                case 2 -> x.exchange(1, 0, 1, 2000);
+                case 3 -> x.hold(1, 1, 100);
+                case 4 -> x.hold(1, 0, 700);
+                case 5 -> x.pay(0, 50);
+                case 6 -> x.dispute(0);
+                case 7 -> x.pass(3);
+                case 8 -> x.lock(1, 3);
+                case 9 -> x.quote(3, 1999);
+                case 10 -> x.set(2, 3);
+                case 11 -> x.append('l');
+                case 12 -> x.append('~');
+                case 13 -> x.undo();
+                default -> x.decide(0, false);
+            }
+        }
+        return x;
     }
 
     private static void everyPartCounts() {
+        for (int steps = 1; steps <= 14; steps++) {
+            if (steps == 11) {
+                same("step " + steps, after(steps), 'l');
+            } else if (steps > 11) {
+                same("step " + steps, after(steps), 'l', '~');
+            } else {
+                same("step " + steps, after(steps));
+            }
+        }
+    }
+
+    private static TravelPurses withHolds(int loaded, int... amounts) {
         TravelPurses x = new TravelPurses();
-        x.load(1, 5000);
-        x.exchange(1, 0, 1, 2000);
-        same("money", x);
-        x.hold(1, 1, 100);
-        x.hold(1, 0, 700);
-        same("holds", x);
-        x.pay(0, 50);
-        x.dispute(0);
-        same("a disputed payment", x);
-        x.pass(3);
-        x.lock(1, 3);
-        x.quote(3, 1999);
-        same("a lock", x);
-        x.set(2, 3);
-        same("a setting", x);
-        x.append('l');
-        x.append('~');
-        same("a buffer", x, 'l', '~');
-        x.undo();
-        same("an undo", x, 'l', '~');
+        x.set(2, 0);
+        x.load(2, loaded);
+        for (int amount : amounts) {
+            x.hold(2, 0, amount);
+        }
+        return x;
     }
 
     private static void shares() {
-        TravelPurses x = new TravelPurses();
-        x.set(2, 0);
-        x.load(0, 99999);
         int[] amounts = {1, 2, 4095, 33333, 49998, 12570};
-        for (int amount : amounts) {
-            x.hold(0, 0, amount);
-            same("a share of " + amount, x);
+        for (int holds = 0; holds <= amounts.length; holds++) {
+            same("a share of " + holds + " holds",
+                    withHolds(99999, Arrays.copyOf(amounts, holds)));
         }
-        CHECK.isDouble("all is held", x.heldShare(0, 0), 1.0);
-        x.load(0, 99999);
-        same("a half", x);
-        x.load(1, 64);
-        x.hold(1, 0, 1);
-        same("a 64th", x);
-        x.hold(1, 0, 2);
-        same("three 64ths", x);
-    }
-
-    private long of(TravelPurses x, int... codes) {
-        hash = 2551;
-        for (int what = 0; what <= 13; what++) {
-            add(x.count(what));
-        }
-        for (int setting = 0; setting <= 3; setting++) {
-            add(x.setting(setting));
-        }
-        for (int wallet = 0; wallet <= 3; wallet++) {
-            for (int currency = 0; currency <= 3; currency++) {
-                for (int what = 0; what <= 7; what++) {
-                    add(x.purse(wallet, currency, what));
-                }
-                add(x.room(wallet, currency));
-                add(Double.doubleToLongBits(x.heldShare(wallet, currency)));
-            }
-            add(x.ifExchanged(wallet, 0, 1, 1000));
-            add(x.ifExchanged(wallet, 2, 0, 1000));
-            add(x.needed(wallet, 3, 500));
-            add(x.whyNot(2, wallet, 0, 0, 1));
-            add(x.ifClosed(wallet));
-        }
-        for (int hold = 0; hold < x.count(1); hold++) {
-            for (int what = 0; what <= 4; what++) {
-                add(x.held(hold, what));
-            }
-        }
-        for (int payment = 0; payment < x.count(2); payment++) {
-            for (int what = 0; what <= 5; what++) {
-                add(x.payment(payment, what));
-            }
-        }
-        add(codes.length);
-        for (int code : codes) {
-            add(code);
-        }
-        return hash;
-    }
-
-    private void add(long value) {
-        hash = 31 * hash + value;
+        same("all is held", withHolds(7, 7));
+        same("a half", withHolds(2, 1));
+        same("a third", withHolds(3, 1));
+        same("a 64th", withHolds(64, 1));
+        same("three 64ths", withHolds(64, 1, 2));
+        same("all but one", withHolds(99999, 99998));
+        same("the least of one load", withHolds(99999, 1));
     }
 }

@@ -1,6 +1,7 @@
 /** All promises: long runs of calls, whose answers have to be those of Model. */
 public final class ModelTest {
-    private static final int RUNS = 400;
+    private static final int RUNS = 500;
+    /** What an object answers after so many calls is free. */
     private static final int CALLS = 512;
     /**
      * Which calls a run makes, and how often: all of them; payments and debts; days; much money;
@@ -21,6 +22,7 @@ public final class ModelTest {
     private final int boldness;
     private final String profile;
     private final int longestPass;
+    private int calls;
     /** Few wallets bring more money, holds and debts together. */
     private final int wallets;
 
@@ -68,8 +70,8 @@ public final class ModelTest {
     private void oneRun() {
         x = new TravelPurses();
         model = new Model();
-        for (int call = 0; call < CALLS; call++) {
-            if (call % 16 == 15) {
+        for (int step = 0; calls < CALLS; step++) {
+            if (step % 16 == 15) {
                 same("digest()", () -> x.digest(), () -> model.digest());
             } else if (below(3) > 0) {
                 change();
@@ -80,6 +82,10 @@ public final class ModelTest {
     }
 
     private void same(String what, Check.Call got, Check.Call due) {
+        if (calls >= CALLS) {
+            return;
+        }
+        calls++;
         check.isText(what, outcome(got), outcome(due));
     }
 
@@ -198,13 +204,14 @@ public final class ModelTest {
                 }
             }
             case 2, 3 -> run();
-            default -> {
-                String piece = PIECES[below(PIECES.length)];
-                for (int i = 0; i < piece.length(); i++) {
-                    int code = piece.charAt(i);
-                    same("append", () -> x.append(code), () -> model.append(code));
-                }
-            }
+            default -> append(PIECES[below(PIECES.length)]);
+        }
+    }
+
+    private void append(String text) {
+        for (int i = 0; i < text.length(); i++) {
+            int code = text.charAt(i);
+            same("append", () -> x.append(code), () -> model.append(code));
         }
     }
 
@@ -212,11 +219,7 @@ public final class ModelTest {
     private void run() {
         if (below(3) > 0) {
             same("clearBuffer", () -> x.clearBuffer(), () -> model.clearBuffer());
-            String row = row();
-            for (int i = 0; i < row.length(); i++) {
-                x.append(row.charAt(i));
-                model.append(row.charAt(i));
-            }
+            append(row());
         }
         same("firstError", () -> x.firstError(), () -> model.firstError());
         same("run", () -> x.run(), () -> model.run());

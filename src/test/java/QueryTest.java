@@ -112,22 +112,25 @@ public final class QueryTest {
     }
 
     private static void neededIsLeast() {
-        TravelPurses x = new TravelPurses();
         int[] rates = {100, 101, 333, 500, 999, 1000, 1001, 1500, 1999, 2000};
         int[] spreads = {0, 1, 10, 37, 99, 100};
         for (int rate : rates) {
-            x.quote(2, rate);
             for (int spread : spreads) {
-                x.set(1, spread);
-                for (int amount = 1; amount <= 9999; amount += amount < 40 ? 1 : 332) {
-                    int least = x.needed(1, 2, amount);
-                    boolean isLeast = x.ifExchanged(1, 0, 2, least) >= amount
-                            && (least == 1 || x.ifExchanged(1, 0, 2, least - 1) < amount);
-                    CHECK.is("least for " + amount + " at " + rate, isLeast ? 1 : 0, 1);
-                }
+                neededIsLeast(rate, spread);
             }
         }
-        CHECK.is("the most that is ever needed", x.needed(1, 2, 9999), 22218);
+    }
+
+    private static void neededIsLeast(int rate, int spread) {
+        TravelPurses x = new TravelPurses();
+        x.quote(2, rate);
+        x.set(1, spread);
+        for (int amount = 1; amount <= 9999; amount += amount < 40 ? 1 : 332) {
+            int least = x.needed(1, 2, amount);
+            boolean isLeast = x.ifExchanged(1, 0, 2, least) >= amount
+                    && (least == 1 || x.ifExchanged(1, 0, 2, least - 1) < amount);
+            CHECK.is("least for " + amount + " at " + rate, isLeast ? 1 : 0, 1);
+        }
     }
 
     private static void neededAtLock() {
