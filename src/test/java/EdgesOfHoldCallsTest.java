@@ -417,6 +417,20 @@ public final class EdgesOfHoldCallsTest {
             c.is("it is exchanged all the same", x.purse(0, 3, 0), 0);
             c.is("and counted", x.count(6), 3);
         });
+        edges.of("Returns the home money that is paid out.", c -> {
+            TravelPurses x = Scenes.plain();
+            x.quote(1, 100);
+            for (int i = 0; i < 30; i++) {
+                x.load(0, 99999);
+                x.exchange(0, 0, 1, 99999);
+            }
+            x.quote(1, 2000);
+            x.set(1, 100);
+            c.is("amount * r is far above the ints", x.ifClosed(0), 53999460);
+            c.is("and so is its spread", x.close(0), 53999460);
+            c.is("the spread", x.count(7), 5999940);
+            c.is("paid out", x.count(5), 53999460);
+        });
         edges.of(REASON, c -> {
             TravelPurses x = Scenes.withHolds(1);
             c.fails("a hold", Check.REFUSED, x, () -> x.close(0));

@@ -41,6 +41,12 @@ public final class EdgesOfHoldTermsTest {
             keeps(c, 50, 1, 1);
             keeps(c, 50, 2, 3);
             keeps(c, 50, 99999, 149998);
+            TravelPurses x = Scenes.withHome(1000);
+            x.hold(0, 0, 100);
+            x.set(2, 50);
+            c.is("of the day on which it was made", x.held(0, 3), 100);
+            c.is("so that no more is kept", x.purse(0, 0, 1), 100);
+            c.is("and no more let go", x.letGo(0), 100);
         });
         edges.of("At most 8 holds are open, numbered from 0", c -> {
             TravelPurses x = Scenes.withHolds(7);
@@ -221,10 +227,27 @@ public final class EdgesOfHoldTermsTest {
         edges.of("If the dispute is won, that is all.", c -> {
             TravelPurses x = Scenes.withPayments(1);
             x.dispute(0);
+            int[] counts = new int[13];
+            for (int what = 0; what <= 12; what++) {
+                counts[what] = x.count(what);
+            }
             c.is("no debt by it", x.decide(0, true), 0);
             c.is("the money stays", x.purse(0, 0, 0), 1011);
             c.is("no debt", x.purse(0, 0, 3), 0);
             c.is("no credit", x.purse(0, 0, 6), 0);
+            for (int what = 0; what <= 12; what++) {
+                c.is("count " + what, x.count(what), what == 3 ? 0 : counts[what]);
+            }
+        });
+        edges.of("If the dispute is won, that is all.", c -> {
+            TravelPurses x = Scenes.withPayments(2);
+            x.dispute(0);
+            x.dispute(1);
+            x.exchange(0, 0, 1, 1023);
+            x.decide(0, false);
+            c.is("with a debt that there is", x.decide(1, true), 0);
+            c.is("it stays as it is", x.purse(0, 0, 3), 11);
+            c.is("nothing pays it", x.count(12), 0);
         });
         edges.of("If it is lost, the credit is taken back: out of what is free of the purse, as far"
                 + " as it goes; the rest becomes debt.", EdgesOfHoldTermsTest::takenBack);

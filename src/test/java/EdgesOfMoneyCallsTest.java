@@ -250,6 +250,8 @@ public final class EdgesOfMoneyCallsTest {
             y.set(0, 0);
             c.is("on the day 0", y.lock(0, 1), 0);
             c.is("it counts", y.purse(0, 1, 5), 0);
+            y.set(0, 60);
+            c.is("by the setting when it was made", y.purse(0, 1, 5), 0);
         });
     }
 

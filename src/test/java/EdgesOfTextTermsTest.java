@@ -355,8 +355,10 @@ public final class EdgesOfTextTermsTest {
     }
 
     private static void exceptions(Edges edges) {
-        edges.of("A call that throws an exception changes nothing.",
-                EdgesOfTextTermsTest::refusedKeepHistory);
+        String nothing = "A call that throws an exception changes nothing.";
+        edges.of(nothing, EdgesOfTextTermsTest::refusedKeepHistory);
+        edges.of(nothing, EdgesOfTextTermsTest::refusedHoldsKeepHistory);
+        edges.of(nothing, EdgesOfTextTermsTest::refusedPaymentsKeepHistory);
         String first = "If several exceptions apply, the one that is named first in the throws"
                 + " clause is thrown.";
         edges.of(first, c -> {
@@ -402,34 +404,71 @@ public final class EdgesOfTextTermsTest {
         });
     }
 
-    /** Also the saved states are as they were: all of them come back, one after the other. */
-    private static void refusedKeepHistory(Check c) {
-        TravelPurses x = Scenes.withHolds(8);
-        long[] due = new long[6];
+    /** Also the six saved states are as they were: all come back, one after the other. */
+    private static void keepsHistory(Check c, Class<? extends RuntimeException> due,
+            TravelPurses x, Check.Call call) {
+        int[] balances = new int[6];
         for (int i = 0; i < 6; i++) {
-            x.load(1, 10 + i);
-            due[i] = x.purse(1, 0, 0);
+            balances[i] = x.purse(2, 0, 0);
+            x.load(2, 1 + i);
         }
-        Check.type(x, "l0+1;");
-        c.fails("load", Check.WRONG, x, () -> x.load(1, 0));
-        c.fails("quote", Check.WRONG, x, () -> x.quote(1, 99));
-        c.fails("lock", Check.NO_SUCH, x, () -> x.lock(0, 0));
-        c.fails("exchange", Check.REFUSED, x, () -> x.exchange(0, 0, 1, 1));
-        c.fails("hold", Check.REFUSED, x, () -> x.hold(1, 0, 1));
-        c.fails("pay", Check.REFUSED, x, () -> x.pay(0, 12));
-        c.fails("letGo", Check.NO_SUCH, x, () -> x.letGo(8));
-        c.fails("dispute", Check.NO_SUCH, x, () -> x.dispute(0));
-        c.fails("decide", Check.NO_SUCH, x, () -> x.decide(0, true));
-        c.fails("close", Check.REFUSED, x, () -> x.close(0));
-        c.fails("pass", Check.WRONG, x, () -> x.pass(61));
-        c.fails("set", Check.WRONG, x, () -> x.set(2, 51));
-        c.fails("append", Check.WRONG, x, () -> x.append(127));
-        c.fails("run", Check.WRONG, x, () -> x.run());
-        c.is("the buffer", x.clearBuffer(), 5);
-        for (int i = 5; i >= 0; i--) {
-            c.is("balance", x.purse(1, 0, 0), due[i]);
-            c.is("undo", x.undo(), i);
+        c.fails("with six states", due, x, call);
+        for (int left = 5; left >= 0; left--) {
+            c.is("undo after it", x.undo(), left);
+            c.is("balance after the undo", x.purse(2, 0, 0), balances[left]);
         }
-        c.is("balance", x.purse(1, 0, 0), 0);
+    }
+
+    private static void refusedKeepHistory(Check c) {
+        TravelPurses rich = Scenes.withHome(1000000);
+        keepsHistory(c, Check.NO_SUCH, rich, () -> rich.load(4, 1));
+        keepsHistory(c, Check.WRONG, rich, () -> rich.load(1, 0));
+        keepsHistory(c, Check.REFUSED, rich, () -> rich.load(0, 1));
+        keepsHistory(c, Check.NO_SUCH, rich, () -> rich.quote(0, 500));
+        keepsHistory(c, Check.WRONG, rich, () -> rich.quote(1, 99));
+        keepsHistory(c, Check.NO_SUCH, rich, () -> rich.lock(0, 0));
+        keepsHistory(c, Check.NO_SUCH, rich, () -> rich.exchange(0, 0, 4, 1));
+        keepsHistory(c, Check.WRONG, rich, () -> rich.exchange(0, 0, 1, 0));
+        keepsHistory(c, Check.REFUSED, rich, () -> rich.exchange(0, 0, 0, 1));
+        keepsHistory(c, Check.REFUSED, rich, () -> rich.exchange(1, 0, 1, 1));
+        keepsHistory(c, Check.NO_SUCH, rich, () -> rich.set(4, 1));
+        keepsHistory(c, Check.WRONG, rich, () -> rich.set(2, 51));
+        keepsHistory(c, Check.WRONG, rich, () -> rich.run());
+    }
+
+    private static void refusedHoldsKeepHistory(Check c) {
+        TravelPurses full = Scenes.withHolds(8);
+        full.load(1, 1);
+        keepsHistory(c, Check.NO_SUCH, full, () -> full.hold(0, 4, 1));
+        keepsHistory(c, Check.WRONG, full, () -> full.hold(0, 0, 100000));
+        keepsHistory(c, Check.REFUSED, full, () -> full.hold(0, 0, 1));
+        keepsHistory(c, Check.REFUSED, full, () -> full.hold(1, 0, 1));
+        keepsHistory(c, Check.NO_SUCH, full, () -> full.pay(8, 1));
+        keepsHistory(c, Check.WRONG, full, () -> full.pay(0, 0));
+        keepsHistory(c, Check.REFUSED, full, () -> full.pay(0, 12));
+        keepsHistory(c, Check.NO_SUCH, full, () -> full.letGo(8));
+        keepsHistory(c, Check.NO_SUCH, full, () -> full.close(4));
+        keepsHistory(c, Check.REFUSED, full, () -> full.close(0));
+        keepsHistory(c, Check.WRONG, full, () -> full.pass(61));
+        TravelPurses late = Scenes.onDay(4999);
+        keepsHistory(c, Check.REFUSED, late, () -> late.pass(2));
+    }
+
+    private static void refusedPaymentsKeepHistory(Check c) {
+        TravelPurses paid = Scenes.withPayments(12);
+        paid.hold(0, 0, 5);
+        keepsHistory(c, Check.REFUSED, paid, () -> paid.pay(0, 5));
+        keepsHistory(c, Check.NO_SUCH, paid, () -> paid.dispute(12));
+        keepsHistory(c, Check.NO_SUCH, paid, () -> paid.decide(12, true));
+        keepsHistory(c, Check.REFUSED, paid, () -> paid.decide(0, true));
+        keepsHistory(c, Check.REFUSED, paid, () -> paid.decide(0, false));
+        paid.letGo(0);
+        paid.dispute(0);
+        keepsHistory(c, Check.REFUSED, paid, () -> paid.dispute(0));
+        keepsHistory(c, Check.REFUSED, paid, () -> paid.close(0));
+        paid.pass(31);
+        keepsHistory(c, Check.REFUSED, paid, () -> paid.dispute(1));
+        TravelPurses owing = Scenes.withDebt(0, 10);
+        keepsHistory(c, Check.REFUSED, owing, () -> owing.close(0));
     }
 }
