@@ -76,8 +76,8 @@ public final class EdgesOfTextTermsTest {
             c.is("carried out", x.run(), 1);
             c.is("in the wallet", x.purse(2, 0, 0), 7);
         });
-        edges.of("\"x\", the wallet, the digits of two currencies, \":\", and an amount (an exchange"
-                + " from the first one to the second one)", c -> {
+        edges.of("\"x\", the wallet, the digits of two currencies, \":\", and an amount (an"
+                + " exchange from the first one to the second one)", c -> {
             good(c, "x", "x0", "x00", "x03", "x000", "x003", "x030", "x033", "x003:", "x033:5");
             badAtEnd(c, "w", "y", "X", "x04", "x0/", "x0:", "x004", "x00/", "x00:", "x003+",
                     "x0033", "x003;", "x003::");
@@ -89,7 +89,8 @@ public final class EdgesOfTextTermsTest {
             c.is("from the first one", x.purse(1, 3, 0), 0);
             c.is("to home money", x.purse(1, 0, 0), 99);
         });
-        edges.of("\"h\", the wallet, the digit of a currency, \":\", and an amount (a hold).", c -> {
+        edges.of("\"h\", the wallet, the digit of a currency, \":\", and an amount (a hold).",
+                c -> {
             good(c, "h", "h0", "h00", "h03", "h03:", "h03:5");
             badAtEnd(c, "g", "i", "H", "h04", "h0/", "h0:", "h03+", "h033", "h03;", "h03::");
             TravelPurses x = new TravelPurses();
