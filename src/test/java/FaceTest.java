@@ -1,11 +1,16 @@
+import java.io.IOException;
 import java.lang.reflect.Constructor;
 import java.lang.reflect.Field;
 import java.lang.reflect.Method;
 import java.lang.reflect.Modifier;
+import java.nio.file.Files;
+import java.nio.file.Path;
 import java.util.ArrayList;
 import java.util.Arrays;
 import java.util.List;
 import java.util.TreeSet;
+import java.util.regex.Matcher;
+import java.util.regex.Pattern;
 
 /** The public face: every member of the document, with its throws clause, and no other one. */
 public final class FaceTest {
@@ -45,13 +50,18 @@ public final class FaceTest {
         "long digest()",
     };
 
-    public static void main(String[] args) {
+    private static final Pattern HEADED = Pattern.compile(
+            "Ahead of the calls (.*) the interface says: (---- .*)\\.");
+    private static final Pattern CALL = Pattern.compile("\n    public \\w+ (\\w+)\\(");
+
+    public static void main(String[] args) throws IOException {
         Check check = new Check("FaceTest");
         Class<?> face = TravelPurses.class;
         check.is("modifiers of the class", face.getModifiers(), Modifier.PUBLIC | Modifier.FINAL);
         check.is("NONE", TravelPurses.NONE, -1);
         methodsAreThoseOfTheDocument(check, face);
         otherMembersAreHidden(check, face);
+        headingsStandAheadOfTheirCalls(check);
         check.end();
     }
 
@@ -93,6 +103,35 @@ public final class FaceTest {
         check.is("constructors", constructors.length, 1);
         check.is("parameters of the constructor", constructors[0].getParameterCount(), 0);
         check.is("modifiers of the constructor", constructors[0].getModifiers(), Modifier.PUBLIC);
+    }
+
+    /** Behind each heading, up to the next one, stand its calls and no others, in their order. */
+    private static void headingsStandAheadOfTheirCalls(Check check) throws IOException {
+        String source = Files.readString(Path.of("src/main/java/TravelPurses.java"));
+        int headings = 0;
+        for (String line : Files.readAllLines(Path.of("../shared/DOC.md"))) {
+            Matcher headed = HEADED.matcher(line);
+            if (headed.matches()) {
+                headings++;
+                check.isText("calls behind " + headed.group(2),
+                        callsBehind(source, headed.group(2)), headed.group(1).replace("`", ""));
+            }
+        }
+        check.is("headings of the document", headings, 5);
+    }
+
+    private static String callsBehind(String source, String heading) {
+        int start = source.indexOf("\n    // " + heading + "\n");
+        if (start < 0) {
+            return "no such heading";
+        }
+        int end = source.indexOf("\n    // ----", start + 1);
+        Matcher call = CALL.matcher(source.substring(start, end < 0 ? source.length() : end));
+        List<String> names = new ArrayList<>();
+        while (call.find()) {
+            names.add(call.group(1));
+        }
+        return String.join(", ", names);
     }
 
     private static String signature(Method method) {
